@@ -298,12 +298,20 @@ public final class QueryClasses {
             if (size >= op.length) over = true;
             if (over || place < 0 || place > size) return;
             for (int i = size; i > place; i--) {
+                boolean jump = op[i - 1] >= JUMP_IF_NO && op[i - 1] <= JUMP;
                 op[i] = op[i - 1];
-                number[i] = isJump(op[i]) ? number[i - 1] + 1 : number[i - 1];
+                number[i] = jump ? number[i - 1] + 1 : number[i - 1];
             }
             op[place] = newOp;
             number[place] = 0;
             size++;
+        }
+
+        /** What stands ahead of the place becomes of another KIND; where it ends then. */
+        int convert(int place, int kind, int wanted) {
+            if (kind == wanted || kind == TRUTH) return place;
+            insert(place, CONVERSIONS + 10 * kind + wanted);
+            return place + 1;
         }
 
         void aim(int jump, int target) {
@@ -357,7 +365,7 @@ public final class QueryClasses {
         }
     }
 
-    /** Reads THE TAPE as TOKENS, one at a time. */
+    /** Reads THE TAPE as TOKENS. */
     private static final class Tokens {
         static final int END = 0, WRONG = 1, NUMBER = 2, REAL = 3, COLUMN = 4, OTHER_WORD = 5;
 
@@ -380,84 +388,86 @@ public final class QueryClasses {
         static final long MOST_NUMBER = 2147483647L;
 
         final byte[] tape;
-        int length, next;
-        int token, place;
+        /** The TOKENS that were read: up to an END, or to the first one that is WRONG. */
+        final int[] token, place;
         /** Of a NUMBER itself, of a COLUMN which, of a REAL all figures as a whole number. */
-        int number;
+        final int[] number;
         /** Of a REAL: 10 to as many as stand behind the point. */
-        int divisor;
+        final int[] divisor;
+        int size, length, start, next;
 
         Tokens(byte[] tape) {
             this.tape = tape;
+            token = new int[MOST_BYTES + 1];
+            place = new int[MOST_BYTES + 1];
+            number = new int[MOST_BYTES + 1];
+            divisor = new int[MOST_BYTES + 1];
         }
 
-        void begin(int bytes) {
+        void readAll(int bytes) {
             length = bytes < tape.length ? bytes : tape.length;
             next = 0;
-            token = END;
+            boolean more = true;
+            for (size = 0; size < token.length && more; size++) {
+                while (next < length && isBlank(tape[next])) next++;
+                start = next;
+                place[size] = start;
+                token[size] = readOne();
+                more = token[size] != END && token[size] != WRONG;
+            }
         }
 
-        void read() {
-            while (next < length && isBlank(tape[next])) next++;
-            place = next;
-            if (next >= length) token = END;
-            else if (isLetter(tape[next])) readWord();
-            else if (isFigure(tape[next])) readFigures();
-            else if (tape[next] == '$') readColumn();
-            else readSign();
+        private int readOne() {
+            if (start >= length) return END;
+            if (isLetter(tape[start])) return readWord();
+            if (isFigure(tape[start])) return readFigures();
+            return tape[start] == '$' ? readColumn() : readSign();
         }
 
-        private void readWord() {
+        private int readWord() {
             while (next < length && isLetter(tape[next])) next++;
-            int found = entry(WORDS, WORD_WIDTH, next - place);
-            token = found < 0 ? OTHER_WORD : FIRST_WORD + found;
+            int found = entry(WORDS, WORD_WIDTH, next - start);
+            return found < 0 ? OTHER_WORD : FIRST_WORD + found;
         }
 
-        private void readSign() {
-            for (int size = SIGN_WIDTH; size > 0; size--) {
-                int found = place + size <= length ? entry(SIGNS, SIGN_WIDTH, size) : -1;
+        private int readSign() {
+            for (int bytes = SIGN_WIDTH; bytes > 0; bytes--) {
+                int found = start + bytes <= length ? entry(SIGNS, SIGN_WIDTH, bytes) : -1;
                 if (found >= 0) {
-                    next = place + size;
-                    token = FIRST_SIGN + found;
-                    return;
+                    next = start + bytes;
+                    return FIRST_SIGN + found;
                 }
             }
-            token = WRONG;
+            return WRONG;
         }
 
-        private void readColumn() {
+        private int readColumn() {
             next++;
-            if (next < length && isFigure(tape[next])) {
-                number = tape[next] - '0';
-                next++;
-                token = COLUMN;
-            } else {
-                token = WRONG;
-            }
+            if (next >= length || !isFigure(tape[next])) return WRONG;
+            number[size] = tape[next] - '0';
+            next++;
+            return COLUMN;
         }
 
-        private void readFigures() {
+        private int readFigures() {
             long whole = figures(0);
-            int pointAt = next;
+            int point = next;
             if (next + 1 < length && tape[next] == '.' && isFigure(tape[next + 1])) {
                 next++;
                 whole = figures(whole);
-                readReal(whole, pointAt);
-            } else {
-                number = (int) whole;
-                token = whole > MOST_NUMBER ? WRONG : NUMBER;
+                return readReal(whole, point);
             }
+            number[size] = (int) whole;
+            return whole > MOST_NUMBER ? WRONG : NUMBER;
         }
 
-        private void readReal(long whole, int pointAt) {
-            if (next - place - 1 > MOST_FIGURES) {
-                token = WRONG;
-                return;
-            }
-            number = (int) whole;
-            divisor = 1;
-            for (int i = pointAt + 1; i < next; i++) divisor *= 10;
-            token = REAL;
+        private int readReal(long whole, int point) {
+            if (next - start - 1 > MOST_FIGURES) return WRONG;
+            int power = 1;
+            for (int i = point + 1; i < next; i++) power *= 10;
+            number[size] = (int) whole;
+            divisor[size] = power;
+            return REAL;
         }
 
         /** Stays just above MOST_NUMBER once it is there, so that no row of figures is too long for it. */
@@ -469,12 +479,12 @@ public final class QueryClasses {
             return whole;
         }
 
-        /** Which entry of a table the bytes from place on are, or -1. */
-        private int entry(String table, int width, int size) {
-            for (int start = 0; size <= width && start + width <= table.length(); start += width) {
+        /** Which entry of a table so many bytes from the start on are, or -1. */
+        private int entry(String table, int width, int bytes) {
+            for (int at = 0; bytes <= width && at + width <= table.length(); at += width) {
                 int same = 0;
-                while (same < size && tape[place + same] == table.charAt(start + same)) same++;
-                if (same == size && (size == width || table.charAt(start + size) == ' ')) return start / width;
+                while (same < bytes && !isBlank(tape[start + same]) && tape[start + same] == table.charAt(at + same)) same++;
+                if (same == bytes && (bytes == width || table.charAt(at + bytes) == ' ')) return at / width;
             }
             return -1;
         }
@@ -505,6 +515,8 @@ public final class QueryClasses {
         final Reals reals;
         final long[] realBits;
         int realCount, open, failure, failurePlace;
+        /** The TOKEN that is met: which of all, what it is, and where it stands. */
+        int at, token, place;
         /** Where ACTS go now. */
         Code code;
 
@@ -521,34 +533,38 @@ public final class QueryClasses {
             open = 0;
             failure = 0;
             failurePlace = 0;
-            tokens.begin(bytes);
+            tokens.readAll(bytes);
+            at = -1;
             take();
         }
 
-        boolean meets(int token) {
-            return tokens.token == token;
-        }
-
+        /** A TOKEN may be WRONG as soon as the one before has been taken. */
         void take() {
-            if (failure != 0) return;
-            tokens.read();
-            if (meets(Tokens.WRONG)) fail(NO_TOKEN, tokens.place);
+            if (failure != 0 || at + 1 >= tokens.size) return;
+            at++;
+            token = tokens.token[at];
+            place = tokens.place[at];
+            if (token == Tokens.WRONG) fail(NO_TOKEN, place);
         }
 
-        void expect(int token) {
-            if (meets(token)) take();
-            else fail(MISPLACED, tokens.place);
+        void expect(int wanted) {
+            if (token == wanted) take();
+            else fail(MISPLACED, place);
         }
 
-        void fail(int which, int place) {
+        void fail(int which, int where) {
             if (failure != 0) return;
             failure = which;
-            failurePlace = place;
-            tokens.token = Tokens.WRONG;
+            failurePlace = where;
+            token = Tokens.WRONG;
+        }
+
+        int number() {
+            return at >= 0 && at < tokens.size ? tokens.number[at] : 0;
         }
 
         private void deepen() {
-            if (open >= MOST_OPEN) fail(TOO_DEEP, tokens.place);
+            if (open >= MOST_OPEN) fail(TOO_DEEP, place);
             open++;
         }
 
@@ -557,42 +573,53 @@ public final class QueryClasses {
             take();
         }
 
+        private void takeClosing(int wanted) {
+            expect(wanted);
+            open--;
+        }
+
         int sum() {
             int kind = joined(OR_LEVEL);
-            return meets(Tokens.ASK) ? choice(kind) : kind;
+            return token == Tokens.ASK ? choice(kind) : kind;
         }
 
         private int choice(int asked) {
             deepen();
-            if (asked != TRUTH) fail(UNFIT, tokens.place);
+            if (asked != TRUTH) fail(UNFIT, place);
             take();
             int toSecond = code.append(JUMP_IF_NO, 0);
             int first = sum();
-            int firstEnd = code.size, colon = tokens.place;
+            int firstEnd = code.size, colon = place;
             code.append(JUMP, 0);
             expect(Tokens.COLON);
             int second = sum();
             open--;
-            int kind = first == TRUTH && second == TRUTH ? TRUTH : later(first, second, colon);
-            int toEnd = convertFirst(first, kind, firstEnd);
-            convert(second, kind);
+            int kind = kindOfBoth(true, first, second, colon);
+            int toEnd = code.convert(firstEnd, first, kind);
+            code.convert(code.size, second, kind);
             code.aim(toSecond, toEnd + 1);
             code.aim(toEnd, code.size);
             return kind;
         }
 
-        /** What is joined by WORDS and SIGNS of this level and the ones that bind more. */
+        /** What is joined by WORDS and SIGNS of this level and of those that bind more. */
         int joined(int least) {
-            boolean negated = least <= NOT_LEVEL && meets(Tokens.NOT);
-            int kind = negated ? negation() : signed();
+            boolean negated = least <= NOT_LEVEL && token == Tokens.NOT;
+            int left = negated ? negation() : signed();
             int most = negated ? AND_LEVEL : TIMES_LEVEL;
             for (int i = 0; i < MOST_BYTES; i++) {
-                int level = levelOf(tokens.token);
+                int level = levelOf(token), sign = token, where = place, leftEnd = code.size;
                 if (level < least || level > most) break;
-                kind = level <= AND_LEVEL ? decided(level, kind) : pair(level, kind);
+                take();
+                if (level == OR_LEVEL) code.append(JUMP_IF_YES, 0);
+                if (level == AND_LEVEL) code.append(JUMP_IF_NO, 0);
+                int right = joined(level + 1);
+                if (level <= AND_LEVEL) left = decided(level, where, left, right, leftEnd);
+                else if (level == SHIFT_LEVEL) left = shifted(sign, where, left, right);
+                else left = paired(level, sign, where, left, right, leftEnd);
                 most = level == TEST_LEVEL ? AND_LEVEL : level;
             }
-            return kind;
+            return left;
         }
 
         private static int levelOf(int token) {
@@ -605,97 +632,79 @@ public final class QueryClasses {
             return token >= Tokens.STAR && token <= Tokens.PER_CENT ? TIMES_LEVEL : -1;
         }
 
-        private int decided(int level, int left) {
-            int word = tokens.place;
-            boolean either = level == OR_LEVEL;
-            take();
-            int toKnown = code.append(either ? JUMP_IF_YES : JUMP_IF_NO, 0);
-            int right = joined(level + 1);
-            if (left != TRUTH || right != TRUTH) fail(UNFIT, word);
+        /** or, and: the jump over the right one stands at the left one's end already. */
+        private int decided(int level, int where, int left, int right, int leftEnd) {
+            if (left != TRUTH || right != TRUTH) fail(UNFIT, where);
             int toEnd = code.append(JUMP, 0);
-            code.aim(toKnown, code.size);
-            code.append(LAY, either ? 1 : 0);
+            code.aim(leftEnd, code.size);
+            code.append(LAY, level == OR_LEVEL ? 1 : 0);
             code.aim(toEnd, code.size);
             return TRUTH;
         }
 
-        private int pair(int level, int left) {
-            int sign = tokens.token, place = tokens.place, leftEnd = code.size;
-            take();
-            int right = joined(level + 1);
-            switch (level) {
-                case TEST_LEVEL: return test(sign, place, left, right, leftEnd);
-                case MIX_LEVEL: return mix(sign, place, left, right, leftEnd);
-                case SHIFT_LEVEL: return shift(sign, place, left, right);
-                default:
-                    int group = sign - Tokens.PLUS + ADD;
-                    return bothMade(100 * group, later(left, right, place), left, right, leftEnd);
-            }
-        }
-
-        private int test(int sign, int place, int left, int right, int leftEnd) {
-            if (left == TRUTH && right == TRUTH && sign <= Tokens.UNEQUAL) code.append(100 * COMPARE + INT, 0);
-            else bothMade(100 * COMPARE, later(left, right, place), left, right, leftEnd);
-            code.append(100 * JUDGE + sign - Tokens.EQUAL, 0);
-            return TRUTH;
-        }
-
-        private int mix(int sign, int place, int left, int right, int leftEnd) {
-            int base = 100 * (sign - Tokens.AMPERSAND + AND_BITS);
-            if (left == TRUTH && right == TRUTH) {
-                code.append(base + INT, 0);
-                return TRUTH;
-            }
-            if (!isWhole(left) || !isWhole(right)) fail(UNFIT, place);
-            return bothMade(base, later(left, right, place), left, right, leftEnd);
-        }
-
-        private int shift(int sign, int place, int left, int right) {
-            if (!isWhole(left) || !isWhole(right)) fail(UNFIT, place);
-            convert(right, INT);
+        private int shifted(int sign, int where, int left, int right) {
+            if (!isWhole(left) || !isWhole(right)) fail(UNFIT, where);
+            code.convert(code.size, right, INT);
             code.append(100 * (sign - Tokens.LEFT + SHIFT_LEFT) + left, 0);
             return left;
         }
 
-        private int bothMade(int base, int kind, int left, int right, int leftEnd) {
-            convertFirst(left, kind, leftEnd);
-            convert(right, kind);
-            code.append(base + kind, 0);
-            return kind;
+        private int paired(int level, int sign, int where, int left, int right, int leftEnd) {
+            boolean test = level == TEST_LEVEL, mix = level == MIX_LEVEL;
+            if (mix && (left > LONG || right > LONG)) fail(UNFIT, where);
+            int kind = kindOfBoth(mix || test && sign <= Tokens.UNEQUAL, left, right, where);
+            int group = test ? COMPARE : sign - Tokens.PLUS + ADD;
+            makeBoth(100 * group, kind, left, right, leftEnd);
+            if (test) code.append(100 * JUDGE + sign - Tokens.EQUAL, 0);
+            return test ? TRUTH : kind;
+        }
+
+        private void makeBoth(int base, int kind, int left, int right, int leftEnd) {
+            code.convert(leftEnd, left, kind);
+            code.convert(code.size, right, kind);
+            code.append(base + (kind == TRUTH ? INT : kind), 0);
+        }
+
+        /** The later KIND of two numbers; or TRUTH of two truths, where they may be. */
+        private int kindOfBoth(boolean truthsToo, int first, int second, int where) {
+            boolean truths = first == TRUTH && second == TRUTH;
+            boolean fits = truths ? truthsToo : first != TRUTH && second != TRUTH;
+            if (!fits) fail(UNFIT, where);
+            return first > second ? first : second;
         }
 
         private int negation() {
-            int word = tokens.place;
+            int where = place;
             takeOpening();
             int kind = joined(NOT_LEVEL);
             open--;
-            if (kind != TRUTH) fail(UNFIT, word);
+            if (kind != TRUTH) fail(UNFIT, where);
             code.append(NOT_ACT, 0);
             return TRUTH;
         }
 
         private int signed() {
-            boolean turned = meets(Tokens.TILDE);
-            if (!turned && !meets(Tokens.MINUS)) return part();
-            int sign = tokens.place;
+            boolean turned = token == Tokens.TILDE;
+            if (!turned && token != Tokens.MINUS) return part();
+            int where = place;
             takeOpening();
             int kind = signed();
             open--;
-            if (turned ? !isWhole(kind) : kind == TRUTH) fail(UNFIT, sign);
+            if (turned ? !isWhole(kind) : kind == TRUTH) fail(UNFIT, where);
             code.append(100 * (turned ? TURN_BITS : NEGATE) + kind, 0);
             return kind;
         }
 
         private int part() {
-            switch (tokens.token) {
-                case Tokens.NUMBER: return simple(LAY, tokens.number, INT);
-                case Tokens.REAL: return real();
+            switch (token) {
+                case Tokens.NUMBER: return simple(LAY, number(), INT);
+                case Tokens.REAL: return simple(LAY_REAL, keepReal(), DOUBLE);
                 case Tokens.ROW: return simple(LAY_OBJECT, 0, INT);
                 case Tokens.YES: return simple(LAY, 1, TRUTH);
                 case Tokens.NO_WORD: return simple(LAY, 0, TRUTH);
                 case Tokens.COLUMN: return cellOfColumn();
                 case Tokens.OPEN: return bracketed();
-                default: return isFunction(tokens.token) ? function() : misplaced();
+                default: return isFunction(token) ? function() : misplaced();
             }
         }
 
@@ -706,50 +715,49 @@ public final class QueryClasses {
         }
 
         private int misplaced() {
-            fail(MISPLACED, tokens.place);
+            fail(MISPLACED, place);
             return INT;
         }
 
-        private int real() {
-            int which = realCount;
-            if (which < realBits.length && tokens.divisor > 0) {
-                realBits[which] = reals.bits(DOUBLE, (double) tokens.number / (double) tokens.divisor);
+        /** Its order among the REALS of the query. */
+        private int keepReal() {
+            int which = realCount, divisor = tokens.divisor[at];
+            if (which < realBits.length && divisor > 0) {
+                realBits[which] = reals.bits(DOUBLE, (double) number() / (double) divisor);
                 realCount++;
             }
-            return simple(LAY_REAL, which, DOUBLE);
+            return which;
         }
 
         private int bracketed() {
             takeOpening();
             int kind = sum();
-            expect(Tokens.CLOSE);
-            open--;
+            takeClosing(Tokens.CLOSE);
             return kind;
         }
 
-        /** The LANE of the COLUMN that is met; it is looked at before the TOKEN behind it is read. */
+        /** The LANE of the COLUMN that is met, which is looked at before the TOKEN behind it. */
         int laneMet() {
-            Row row = columns[tokens.number];
-            if (row == null) fail(NO_COLUMN, tokens.place);
+            Row row = isColumn(number()) ? columns[number()] : null;
+            if (row == null) fail(NO_COLUMN, place);
             return row == null ? INTS : row.lane;
         }
 
         private int cellOfColumn() {
-            int which = tokens.number, lane = laneMet();
+            int which = number(), lane = laneMet();
             take();
-            if (meets(Tokens.OPEN_INDEX)) index();
+            if (token == Tokens.OPEN_INDEX) readIndex();
             else code.append(LAY_OBJECT, 0);
             code.append(LOAD + lane, which);
             return kindOfLane(lane);
         }
 
-        private void index() {
-            int bracket = tokens.place;
+        private void readIndex() {
+            int where = place;
             takeOpening();
             int kind = sum();
-            expect(Tokens.CLOSE_INDEX);
-            open--;
-            if (kind != INT) fail(UNFIT, bracket);
+            takeClosing(Tokens.CLOSE_INDEX);
+            if (kind != INT) fail(UNFIT, where);
         }
 
         private static boolean isFunction(int token) {
@@ -757,69 +765,48 @@ public final class QueryClasses {
         }
 
         private int function() {
-            int word = tokens.token;
+            int word = token;
             boolean two = word == Tokens.MIN || word == Tokens.MAX;
             take();
-            int bracket = tokens.place;
-            if (!meets(Tokens.OPEN)) return misplaced();
+            int where = place;
+            if (token != Tokens.OPEN) return misplaced();
             takeOpening();
             int first = sum(), firstEnd = code.size, second = first;
             if (two) {
                 expect(Tokens.COMMA);
                 second = sum();
             }
-            expect(Tokens.CLOSE);
-            open--;
-            int kind = later(first, second, bracket);
-            if (two) return bothMade(word == Tokens.MIN ? LEAST : GREATEST, kind, first, second, firstEnd);
-            return ofOne(word, kind);
+            takeClosing(Tokens.CLOSE);
+            int kind = kindOfBoth(false, first, second, where);
+            if (!two) return ofOne(word, kind);
+            makeBoth(word == Tokens.MIN ? LEAST : GREATEST, kind, first, second, firstEnd);
+            return kind;
         }
 
         private int ofOne(int word, int kind) {
-            switch (word) {
-                case Tokens.ABS_OF:
-                    code.append(ABS + kind, 0);
-                    return kind;
-                case Tokens.FLOOR_OF: return ofDouble(kind, FLOOR);
-                case Tokens.CEIL_OF: return ofDouble(kind, CEIL);
-                case Tokens.RINT_OF: return ofDouble(kind, RINT);
-                case Tokens.SIGN_OF:
-                    if (kind != FLOAT) return ofDouble(kind, SIGNUM + DOUBLE);
-                    code.append(SIGNUM + FLOAT, 0);
-                    return FLOAT;
-                default: return cast(kind, word - Tokens.AS_BYTE + BYTES);
-            }
+            if (word >= Tokens.AS_BYTE) return cast(kind, word - Tokens.AS_BYTE + BYTES);
+            boolean keeps = word == Tokens.ABS_OF || word == Tokens.SIGN_OF && kind == FLOAT;
+            int made = keeps ? kind : DOUBLE;
+            code.convert(code.size, kind, made);
+            code.append(opOfOne(word, made), 0);
+            return made;
         }
 
-        private int ofDouble(int kind, int op) {
-            convert(kind, DOUBLE);
-            code.append(op, 0);
-            return DOUBLE;
+        private static int opOfOne(int word, int kind) {
+            switch (word) {
+                case Tokens.ABS_OF: return ABS + kind;
+                case Tokens.FLOOR_OF: return FLOOR;
+                case Tokens.CEIL_OF: return CEIL;
+                case Tokens.RINT_OF: return RINT;
+                default: return SIGNUM + kind;
+            }
         }
 
         int cast(int kind, int lane) {
             int wanted = kindOfLane(lane);
-            convert(kind, wanted);
+            code.convert(code.size, kind, wanted);
             if (lane <= CHARS) code.append(NARROW + lane, 0);
             return wanted;
-        }
-
-        void convert(int kind, int wanted) {
-            convertFirst(kind, wanted, code.size);
-        }
-
-        /** Where what stood at the end of the first one stands now. */
-        private int convertFirst(int kind, int wanted, int end) {
-            if (kind == wanted || kind == TRUTH) return end;
-            code.insert(end, CONVERSIONS + 10 * kind + wanted);
-            return end + 1;
-        }
-
-        /** The later KIND of two numbers. */
-        private int later(int first, int second, int place) {
-            if (first == TRUTH || second == TRUTH) fail(UNFIT, place);
-            int kind = first > second ? first : second;
-            return kind == TRUTH ? INT : kind;
         }
 
         static boolean isWhole(int kind) {
@@ -846,11 +833,13 @@ public final class QueryClasses {
         Query make(int bytes) {
             begin();
             sums.begin(bytes, parts[WHERE_PART]);
-            verb = sums.tokens.token;
+            verb = sums.token;
             if (verb == Tokens.FIND) readFind();
             else if (verb == Tokens.FOLD) readFold();
             else if (verb == Tokens.SET) readSet();
-            else sums.fail(MISPLACED, sums.tokens.place);
+            else sums.fail(MISPLACED, sums.place);
+            if (verb != Tokens.FIND) readWhere();
+            if (verb == Tokens.FOLD) readBy();
             sums.expect(Tokens.END);
             if (isTooLong()) sums.fail(TOO_LONG, bytes);
             failure = sums.failure;
@@ -883,79 +872,78 @@ public final class QueryClasses {
             return false;
         }
 
+        /** Takes the WORD ahead of what is the code of a PART. */
+        private void enter(int part) {
+            sums.code = parts[part];
+            sums.take();
+        }
+
+        private void mustFit(boolean fits) {
+            if (!fits) sums.fail(UNFIT, sums.place);
+        }
+
         private void readFind() {
-            readTruth();
-            if (sums.meets(Tokens.ORDER)) {
-                sums.convert(readNumbers(), DOUBLE);
-                if (sums.meets(Tokens.DOWN)) {
-                    down = true;
-                    sums.take();
-                }
-            }
-            if (sums.meets(Tokens.FIRST)) {
+            enter(WHERE_PART);
+            mustFit(sums.joined(Sums.OR_LEVEL) == TRUTH);
+            if (sums.token == Tokens.ORDER) readOrder();
+            if (sums.token == Tokens.FIRST) {
                 sums.take();
-                if (sums.meets(Tokens.NUMBER)) first = sums.tokens.number;
+                if (sums.token == Tokens.NUMBER) first = sums.number();
                 sums.expect(Tokens.NUMBER);
+            }
+        }
+
+        private void readOrder() {
+            enter(SUM_PART);
+            int told = sums.sum();
+            mustFit(told != TRUTH);
+            sums.code.convert(sums.code.size, told, DOUBLE);
+            if (sums.token == Tokens.DOWN) {
+                down = true;
+                sums.take();
             }
         }
 
         private void readFold() {
             sums.take();
-            how = sums.tokens.token;
-            if (how == Tokens.COUNT) sums.take();
-            else if (how >= Tokens.SUM && how <= Tokens.MEAN) readFolded();
-            else sums.fail(MISPLACED, sums.tokens.place);
-            readWhere();
-            if (sums.meets(Tokens.BY)) readKey();
-        }
-
-        private void readFolded() {
-            int told = readNumbers();
+            how = sums.token;
+            if (how == Tokens.COUNT) {
+                sums.take();
+                return;
+            }
+            if (how < Tokens.SUM || how > Tokens.MEAN) sums.fail(MISPLACED, sums.place);
+            enter(SUM_PART);
+            int told = sums.sum();
+            mustFit(told != TRUTH);
             kind = told;
             if (how == Tokens.MEAN) kind = DOUBLE;
             if (how == Tokens.SUM) kind = Sums.isWhole(told) ? LONG : DOUBLE;
-            sums.convert(told, kind);
-        }
-
-        private void readKey() {
-            sums.code = parts[KEY_PART];
-            sums.take();
-            if (!Sums.isWhole(sums.sum())) sums.fail(UNFIT, sums.tokens.place);
+            sums.code.convert(sums.code.size, told, kind);
         }
 
         private void readSet() {
-            sums.code = parts[SUM_PART];
-            sums.take();
-            int which = sums.tokens.number, lane = sums.meets(Tokens.COLUMN) ? sums.laneMet() : INTS;
+            enter(SUM_PART);
+            int which = sums.number(), lane = sums.token == Tokens.COLUMN ? sums.laneMet() : INTS;
             sums.expect(Tokens.COLUMN);
-            int becomes = sums.tokens.place;
+            int becomes = sums.place;
             sums.expect(Tokens.BECOMES);
             sums.code.append(LAY_OBJECT, 0);
             int told = sums.sum();
             if ((lane == TRUTHS) != (told == TRUTH)) sums.fail(UNFIT, becomes);
             if (lane != TRUTHS) sums.cast(told, lane);
             sums.code.append(STORE + lane, which);
-            readWhere();
         }
 
         private void readWhere() {
-            if (sums.meets(Tokens.WHERE)) readTruth();
+            if (sums.token != Tokens.WHERE) return;
+            enter(WHERE_PART);
+            mustFit(sums.joined(Sums.OR_LEVEL) == TRUTH);
         }
 
-        /** The or behind find, where. */
-        private void readTruth() {
-            sums.code = parts[WHERE_PART];
-            sums.take();
-            if (sums.joined(Sums.OR_LEVEL) != TRUTH) sums.fail(UNFIT, sums.tokens.place);
-        }
-
-        /** The sum behind order, how: its KIND. */
-        private int readNumbers() {
-            sums.code = parts[SUM_PART];
-            sums.take();
-            int told = sums.sum();
-            if (told == TRUTH) sums.fail(UNFIT, sums.tokens.place);
-            return told;
+        private void readBy() {
+            if (sums.token != Tokens.BY) return;
+            enter(KEY_PART);
+            mustFit(Sums.isWhole(sums.sum()));
         }
     }
 
@@ -1034,15 +1022,15 @@ public final class QueryClasses {
         }
 
         double real(int kind, long v) {
-            int places = kind == FLOAT ? FLOAT_PLACES : DOUBLE_PLACES;
             long size = sizeOf(kind, v);
-            double real = isInfinite(kind, v) ? 1e308 * 10.0 : scaled(digits(places, size), power(kind, size));
+            boolean infinite = size == (kind == FLOAT ? FLOAT_INFINITE : DOUBLE_INFINITE);
+            double real = infinite ? 1e308 * 10.0 : scaled(digits(kind, size), power(kind, size));
             return v < 0 ? -1.0 * real : real;
         }
 
         /** A finite size is its digits by 2 to its power. */
-        private static long digits(int places, long size) {
-            long most = 1L << places;
+        private static long digits(int kind, long size) {
+            long most = 1L << (kind == FLOAT ? FLOAT_PLACES : DOUBLE_PLACES);
             return size < most ? size : size & (most - 1) | most;
         }
 
@@ -1102,9 +1090,8 @@ public final class QueryClasses {
             }
         }
 
-        /** What comes, where it isn't endless. */
+        /** What comes of + - * /, where it isn't endless. */
         long joined(int group, int kind, long a, long b) {
-            if (group == REMAIN) return remainder(kind, a, b);
             double x = real(kind, a), y = real(kind, b);
             return bits(kind, kind == FLOAT ? (double) ofFloats(group, (float) x, (float) y) : ofDoubles(group, x, y));
         }
@@ -1128,29 +1115,26 @@ public final class QueryClasses {
         }
 
         /** Digit by digit, since a quotient of doubles would lose what is behind its 53 bits. */
-        private long remainder(int kind, long a, long b) {
+        long remainder(int kind, long a, long b) {
             long size = sizeOf(kind, a), divisor = sizeOf(kind, b);
             if (size < divisor || divisor == 0) return a;
-            int places = kind == FLOAT ? FLOAT_PLACES : DOUBLE_PLACES;
-            long by = digits(places, divisor), rest = digits(places, size) % by;
+            long by = digits(kind, divisor), rest = by == 0 ? 0 : digits(kind, size) % by;
             int power = power(kind, divisor);
-            for (int left = power(kind, size) - power; left > 0; left -= SHIFT_AT_ONCE) {
+            for (int left = power(kind, size) - power; left > 0 && by > 0; left -= SHIFT_AT_ONCE) {
                 rest = (rest << (left < SHIFT_AT_ONCE ? left : SHIFT_AT_ONCE)) % by;
             }
             long bits = bits(kind, scaled(rest, power));
             return a < 0 ? negated(kind, bits) : bits;
         }
 
+        /** From a KIND of number to another one. */
         long converted(int from, int to, long v) {
-            if (from >= FLOAT) return ofReal(real(from, v), to);
-            if (to == INT) return (int) v;
-            if (to == LONG) return v;
-            return bits(to, to == FLOAT ? (double) (float) v : (double) v);
-        }
-
-        private long ofReal(double real, int to) {
-            if (to == INT) return (int) real;
-            if (to == LONG) return (long) real;
+            if (from < FLOAT) {
+                if (to < FLOAT) return to == INT ? (int) v : v;
+                return bits(to, to == FLOAT ? (double) (float) v : (double) v);
+            }
+            double real = real(from, v);
+            if (to < FLOAT) return to == INT ? (int) real : (long) real;
             return bits(to, to == FLOAT ? (double) (float) real : real);
         }
 
@@ -1203,11 +1187,13 @@ public final class QueryClasses {
             at = 0;
             // Jumps lead on alone, so no ACT is done twice.
             for (int i = 0; i < code.size && at >= 0 && at < code.size; i++) {
-                int op = code.op[at];
-                if (Code.isJump(op)) at = jumps(op) ? code.number[at] : at + 1;
-                else step(op, code.number[at]);
+                int op = code.op[at], group = op / 100, next = at + 1;
+                if (Code.isJump(op)) next = jumps(op) ? code.number[at] : next;
+                else if (group == 0) small(op, code.number[at]);
+                else if (group <= SHIFT_ZERO || group == COMPARE) joinTwo(group, op % 100, pop());
+                else turnOne(group, op, pop());
                 if (failure != 0) return false;
-                if (!Code.isJump(op)) at++;
+                at = next;
                 done++;
             }
             return true;
@@ -1231,25 +1217,6 @@ public final class QueryClasses {
             if (top <= 0) return 0;
             top--;
             return pile[top];
-        }
-
-        private void step(int op, int number) {
-            int group = op / 100, kind = op % 100;
-            if (group == 0) {
-                small(op, number);
-            } else if (group <= SHIFT_ZERO || group == COMPARE) {
-                long second = pop(), first = pop();
-                if (group <= REMAIN) calculate(group, kind, first, second);
-                else if (group == COMPARE) push(Reals.compared(kind, first, second));
-                else push(mixed(group, kind, first, second));
-            } else if (group == FUNCTION) {
-                function(op);
-            } else if (group == CONVERT) {
-                long v = pop();
-                push(op > NARROW ? narrowed(op - NARROW, v) : reals.converted(kind / 10, kind % 10, v));
-            } else {
-                push(turned(group, kind, pop()));
-            }
         }
 
         private void small(int op, int number) {
@@ -1293,15 +1260,26 @@ public final class QueryClasses {
             sets = 0;
         }
 
-        private void calculate(int group, int kind, long a, long b) {
-            if (kind < FLOAT) {
-                if (group >= DIVIDE && b == 0) failure = ZERO;
-                else push(kind == INT ? (int) ofWhole(group, a, b) : ofWhole(group, a, b));
-            } else if (Reals.isEndless(group, kind, a, b)) {
-                failure = ENDLESS;
-            } else {
-                push(reals.joined(group, kind, a, b));
-            }
+        private void joinTwo(int group, int kind, long second) {
+            long first = pop();
+            boolean sums = group <= REMAIN;
+            if (group == COMPARE) push(Reals.compared(kind, first, second));
+            else if (!sums) push(mixed(group, kind, first, second));
+            else if (kind < FLOAT && group >= DIVIDE && second == 0) failure = ZERO;
+            else if (kind == INT) push((int) ofWhole(group, first, second));
+            else if (kind == LONG) push(ofWhole(group, first, second));
+            else if (Reals.isEndless(group, kind, first, second)) failure = ENDLESS;
+            else if (group == REMAIN) push(reals.remainder(kind, first, second));
+            else push(reals.joined(group, kind, first, second));
+        }
+
+        private void turnOne(int group, int op, long v) {
+            if (group == FUNCTION && op > LEAST) push(Reals.extreme(op > GREATEST, op % 10, pop(), v));
+            else if (group == FUNCTION && op < SIGNUM && op >= FLOOR) push(reals.rounded(op, v));
+            else if (group == FUNCTION) push(op > SIGNUM ? Reals.signOf(op % 10, v) : absolute(op % 10, v));
+            else if (op > NARROW && group == CONVERT) push(narrowed(op - NARROW, v));
+            else if (group == CONVERT) push(reals.converted(op / 10 % 10, op % 10, v));
+            else push(turned(group, op % 100, v));
         }
 
         private static long ofWhole(int group, long a, long b) {
@@ -1348,15 +1326,6 @@ public final class QueryClasses {
                 case 4: return v <= 0;
                 default: return v >= 0;
             }
-        }
-
-        private void function(int op) {
-            long v = pop();
-            int kind = op % 10;
-            if (op > LEAST) push(Reals.extreme(op > GREATEST, kind, pop(), v));
-            else if (op > SIGNUM) push(Reals.signOf(kind, v));
-            else if (op >= FLOOR) push(reals.rounded(op, v));
-            else push(absolute(kind, v));
         }
 
         private static long absolute(int kind, long v) {
@@ -1430,11 +1399,14 @@ public final class QueryClasses {
         final Machine machine;
         final Reals reals;
         final Outcome outcome;
+        /** What the PARTS answered for the OBJECT; 0 of one that isn't there. */
+        final long[] answers;
 
         Runner(Row[] columns, Reals reals, Outcome outcome) {
             this.reals = reals;
             this.outcome = outcome;
             machine = new Machine(columns, reals);
+            answers = new long[PARTS];
         }
 
         int go(Query query, int number, int objectCount) {
@@ -1456,20 +1428,18 @@ public final class QueryClasses {
         }
 
         private void visit(Query query, int object) {
-            if (query.has(WHERE_PART) && answer(query, WHERE_PART, object) == 0) return;
-            long told = answer(query, SUM_PART, object);
-            long key = answer(query, KEY_PART, object);
-            if (outcome.failure != 0) return;
-            if (query.verb == Tokens.FOLD) fold(query, key, told);
-            else outcome.add(object, query.verb == Tokens.FIND ? told : 0);
-        }
-
-        /** 0, if there is no such PART, or a failure. */
-        private long answer(Query query, int part, int object) {
-            if (!query.has(part) || outcome.failure != 0) return 0;
-            if (machine.perform(query.parts[part], object)) return machine.answer();
-            outcome.fail(machine.failure, part, machine.at);
-            return 0;
+            for (int part = 0; part < PARTS; part++) {
+                answers[part] = 0;
+                if (!query.has(part)) continue;
+                if (!machine.perform(query.parts[part], object)) {
+                    outcome.fail(machine.failure, part, machine.at);
+                    return;
+                }
+                answers[part] = machine.answer();
+                if (part == WHERE_PART && answers[part] == 0) return;
+            }
+            if (query.verb == Tokens.FOLD) fold(query, answers[KEY_PART], answers[SUM_PART]);
+            else outcome.add(object, query.verb == Tokens.FIND ? answers[SUM_PART] : 0);
         }
 
         private void fold(Query query, long key, long told) {
