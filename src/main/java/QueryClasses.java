@@ -483,8 +483,10 @@ public final class QueryClasses {
         private int entry(String table, int width, int bytes) {
             for (int at = 0; bytes <= width && at + width <= table.length(); at += width) {
                 int same = 0;
-                while (same < bytes && !isBlank(tape[start + same]) && tape[start + same] == table.charAt(at + same)) same++;
-                if (same == bytes && (bytes == width || table.charAt(at + bytes) == ' ')) return at / width;
+                while (same < bytes && tape[start + same] == table.charAt(at + same)) same++;
+                // A blank of the table is no byte of a TOKEN, though THE TAPE may have one there, too.
+                boolean whole = bytes == width || table.charAt(at + bytes) == ' ';
+                if (same == bytes && whole && table.charAt(at + bytes - 1) != ' ') return at / width;
             }
             return -1;
         }
@@ -1035,7 +1037,8 @@ public final class QueryClasses {
         }
 
         private static int power(int kind, long size) {
-            int places = kind == FLOAT ? FLOAT_PLACES : DOUBLE_PLACES, bias = kind == FLOAT ? FLOAT_BIAS : DOUBLE_BIAS;
+            int places = kind == FLOAT ? FLOAT_PLACES : DOUBLE_PLACES;
+            int bias = kind == FLOAT ? FLOAT_BIAS : DOUBLE_BIAS;
             int exponent = (int) (size >> places);
             return (exponent > 1 ? exponent : 1) - bias - places;
         }
@@ -1060,7 +1063,8 @@ public final class QueryClasses {
 
         private long sizeBits(int kind, double size) {
             if (size > 1.7976931348623157E308) return kind == FLOAT ? FLOAT_INFINITE : DOUBLE_INFINITE;
-            int places = kind == FLOAT ? FLOAT_PLACES : DOUBLE_PLACES, bias = kind == FLOAT ? FLOAT_BIAS : DOUBLE_BIAS;
+            int places = kind == FLOAT ? FLOAT_PLACES : DOUBLE_PLACES;
+            int bias = kind == FLOAT ? FLOAT_BIAS : DOUBLE_BIAS;
             boolean big = size >= 1.0;
             double near = size;
             int power = 0;
@@ -1093,7 +1097,8 @@ public final class QueryClasses {
         /** What comes of + - * /, where it isn't endless. */
         long joined(int group, int kind, long a, long b) {
             double x = real(kind, a), y = real(kind, b);
-            return bits(kind, kind == FLOAT ? (double) ofFloats(group, (float) x, (float) y) : ofDoubles(group, x, y));
+            if (kind == FLOAT) return bits(FLOAT, (double) ofFloats(group, (float) x, (float) y));
+            return bits(DOUBLE, ofDoubles(group, x, y));
         }
 
         private static float ofFloats(int group, float x, float y) {
