@@ -840,6 +840,8 @@ public final class QueryClasses {
             else if (verb == Tokens.FOLD) readFold();
             else if (verb == Tokens.SET) readSet();
             else sums.fail(MISPLACED, sums.place);
+            if (verb == Tokens.FIND) readOrder();
+            if (verb == Tokens.FIND) readFirst();
             if (verb != Tokens.FIND) readWhere();
             if (verb == Tokens.FOLD) readBy();
             sums.expect(Tokens.END);
@@ -887,15 +889,17 @@ public final class QueryClasses {
         private void readFind() {
             enter(WHERE_PART);
             mustFit(sums.joined(Sums.OR_LEVEL) == TRUTH);
-            if (sums.token == Tokens.ORDER) readOrder();
-            if (sums.token == Tokens.FIRST) {
-                sums.take();
-                if (sums.token == Tokens.NUMBER) first = sums.number();
-                sums.expect(Tokens.NUMBER);
-            }
+        }
+
+        private void readFirst() {
+            if (sums.token != Tokens.FIRST) return;
+            sums.take();
+            if (sums.token == Tokens.NUMBER) first = sums.number();
+            sums.expect(Tokens.NUMBER);
         }
 
         private void readOrder() {
+            if (sums.token != Tokens.ORDER) return;
             enter(SUM_PART);
             int told = sums.sum();
             mustFit(told != TRUTH);
