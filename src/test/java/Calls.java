@@ -1,4 +1,4 @@
-/** What the tests share: counting answers that are not as due, and telling texts. */
+/** What the tests share: counting answers that are not as due, telling texts, and seeing all of an object. */
 final class Calls {
     private int wrong = 0, asked = 0;
 
@@ -50,6 +50,29 @@ final class Calls {
             if (x.act(q, part, i, 1) != 0) out.append(':').append(x.act(q, part, i, 1));
         }
         return out.toString();
+    }
+
+    /** All that calls tell of an object, without changing it; what THE TAPE holds is not among it. */
+    static String state(QueryClasses x) {
+        StringBuilder s = new StringBuilder("counts");
+        for (int what = 0; what < 4; what++) s.append(' ').append(x.count(what));
+        for (int c = 0; c < 10; c++) {
+            s.append(", $").append(c);
+            for (int what = 0; what < 3; what++) s.append(' ').append(x.about(c, what));
+            int cells = x.about(c, 1);
+            for (int i = 0; i < cells; i++) s.append(i == 0 ? ": " : " ").append(x.cell(c, i));
+        }
+        s.append(", fault ").append(x.fault()).append(", run");
+        for (int what = 0; what < 6; what++) s.append(' ').append(x.told(what));
+        int hits = x.told(4);
+        for (int k = 0; k < hits; k++) {
+            s.append(", hit ").append(x.hit(k)).append(' ').append(x.score(k)).append(' ').append(x.value(k));
+        }
+        int queries = x.count(2);
+        for (int q = 0; q < queries; q++) {
+            for (int part = 0; part < 3; part++) s.append(part == 0 ? ", code " : "; ").append(code(x, q, part));
+        }
+        return s.toString();
     }
 
     static long bits(double v) {
