@@ -283,10 +283,10 @@ public final class EdgesOfCallsTest {
         x.column(1, 7, 1);
         x.put(0, 0, Calls.bits(2.5f));
         x.put(1, 0, Calls.bits(2.5));
-        long[] noFloats = {0x7F800001L, 0x7FC00000L, 0x7FFFFFFFL, 0xFF800001L, 0xFFFFFFFFL, -1, (int) 0xFF800001, 0x17F800001L};
+        long[] noFloats = {0x7F800001L, 0x7FC00000L, 0x7FFFFFFFL, 0xFF800001L, 0xFFFFFFFFL, -1, 0xFF800001, 0x17F800001L};
         for (long v : noFloats) due("6 no float " + Long.toHexString(v), x.put(0, 0, v), -1);
         due("6 it stays", x.cell(0, 0), Calls.bits(2.5f));
-        long[] floats = {0x7F7FFFFFL, 0x7F800000L, (int) 0xFF7FFFFF, (int) 0xFF800000, 0xFF800000L};
+        long[] floats = {0x7F7FFFFFL, 0x7F800000L, 0xFF7FFFFF, 0xFF800000, 0xFF800000L};
         for (long v : floats) {
             due("6 a float " + Long.toHexString(v), x.put(0, 0, v), 1);
             due("7 a float", x.cell(0, 0), (int) v);

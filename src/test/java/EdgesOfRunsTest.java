@@ -447,7 +447,9 @@ public final class EdgesOfRunsTest {
         due("15 an OBJECT that is passed by", runs(x, "find no order 1/0"), 0);
         due("15 an OBJECT that isn't", runs(x, "find yes order 1/0"), -10);
         failed("15 order", x, 4, 1, 2);
-        due("15 an OBJECT that is first 0", runs(x, "find yes order 1/0 first 0"), -10);
+        due("15 first 0 goes through all, too", runs(x, "find yes order 1/0 first 0"), -10);
+        x.objects(4);
+        due("15 first 1 goes through all, too", runs(x, "find 1/(3-row)!=9 first 1"), -13);
         x.column(0, 4, 1);
         due("15 an OBJECT that is passed by", runs(x, "set $0 := 1/0 where no"), 0);
     }

@@ -26,6 +26,7 @@ public final class EdgesOfTextsTest {
         theFirstMet();
         twoHundredActs();
         pilesOfTwentyFour();
+        pilesAboveEachAct();
         tooLongIsLast();
         twelveQueries();
         emptyTapeAfterQuery();
@@ -507,7 +508,7 @@ public final class EdgesOfTextsTest {
         due("their ACTS", x.acts(0, 0) + x.acts(0, 1) + x.acts(0, 2), 103 + 120 + 120);
     }
 
-    /** Lays so many values one above the other: five at most of each bracket, four of them within the next one. */
+    /** Lays so many values one above the other: four lie below what is within each bracket. */
     private static String pileOf(int height) {
         String[] rest = {"1", "5-3", "5-2*2", "3<<5-2*2"};
         int brackets = (height - 1) / 4, left = (height - 1) % 4;
@@ -563,6 +564,24 @@ public final class EdgesOfTextsTest {
         fits("fold max " + many("max(1,", 12) + "1" + many(")", 12));
         answers(pileOf(24), value(24));
         answers(pileOf(23), value(23));
+    }
+
+    /** Each sum below is one value on the PILE, whatever it lays and takes until it is there. */
+    private static void pilesAboveEachAct() {
+        String[] sums = {"7", "row", "$4", "$4[0]", "$1", "$2", "$3", "-7", "~7", "abs(7)", "(7)", "(1+1)", "(1-1)", "(1*1)",
+            "(1/1)", "(1%1)", "(1&1)", "(1|1)", "(1^1)", "(1<<1)", "(1>>1)", "(1>>>1)", "min(7,1)", "max(7,1)", "byte(7)",
+            "short(7)", "char(7)", "int(1.5)", "int(long(7))", "int(float(7))", "int(double(7))", "int(-long(7))", "int(-1.5)",
+            "int(floor(1.5))", "int(ceil(1.5))", "int(rint(1.5))", "int(sign(1.5))", "int(sign(float(1)))", "int($5+1)",
+            "int($6*1)", "int($7/1.5)", "int($5%1)", "int($5>>1)", "int(~$5)", "int($5|1)", "int(abs($6))", "int(min($5,1))",
+            "int(max($6,1))", "int(min(1.5,2.5))", "(1=1?1:1)", "(1<$5?1:1)", "(1.5>=$6?1:1)", "($0!=yes?1:1)", "(yes&no?1:1)",
+            "(not yes?1:1)", "(yes and no?1:1)", "(yes or no?1:1)", "(yes?1:no?1:1)", "int(yes?1:1.5)"};
+        for (String sum : sums) {
+            String fits = sum + pileOf(24).substring(1), fails = sum + pileOf(25).substring(1);
+            fits("fold max " + fits);
+            fails("fold max " + fails, 6, 9 + fails.length());
+            fits("fold count by " + fits);
+            fails("find 0=" + fits, 6, 7 + fits.length());
+        }
     }
 
     /** What pileOf is. */
