@@ -33,6 +33,7 @@ public final class EdgesOfRunsTest {
         ordersAtTheEnds();
         likesByObject();
         groupsUpToEight();
+        valuesOfEightGroups();
         groupsOfNone();
         keysAtTheEnds();
         sumsWrap();
@@ -550,6 +551,27 @@ public final class EdgesOfRunsTest {
         due("15 just eight", runs(x, "fold count by row"), 8);
         x.objects(9);
         due("15 one more", runs(x, "fold count by row"), -18);
+    }
+
+    /** Each of the GROUPS, the last one too, has its own VALUE: OBJECTS k and k + 8 are GROUP k. */
+    private static void valuesOfEightGroups() {
+        QueryClasses x = new QueryClasses();
+        x.objects(16);
+        for (int groups = 7; groups <= 8; groups++) {
+            String[] hows = {"count", "sum row", "sum row+0.5", "min row", "max row", "mean row", "mean row+0.25"};
+            for (String how : hows) {
+                String text = "fold " + how + " where row%8<" + groups + " by row%8";
+                due("15 " + text, runs(x, text), groups);
+                for (int k = 0; k < groups; k++) {
+                    long[] due = {2, 2 * k + 8, Calls.bits(2.0 * k + 9), k, k + 8, Calls.bits(k + 4.0), Calls.bits(k + 4.25)};
+                    due("17 " + text + " of " + k, x.hit(k), 2);
+                    due("18 " + text + " of " + k, x.score(k), k);
+                    due("19 " + text + " of " + k, x.value(k), due[java.util.Arrays.asList(hows).indexOf(how)]);
+                }
+                due("19 " + text + ": none behind them", x.value(groups), LOST);
+                x.clear();
+            }
+        }
     }
 
     private static void groupsOfNone() {
